@@ -104,6 +104,7 @@ public final class Debatetab {
         }
         // The row counts only when the judges fit too; until then it is a sheet to try on.
         Round round = history.spare();
+        brackets.form();
         fillRooms(round);
         if (!panel.seat(round)) {
             throw new UnsupportedOperationException("the judges do not fit");
@@ -536,8 +537,8 @@ public final class Debatetab {
         return Math.abs(placeSum - size + 1);
     }
 
+    /** Fills a round with the rooms of the brackets that have just been formed. */
     private void fillRooms(Round round) {
-        brackets.form();
         round.clear();
         for (int bracket = 0; bracket < brackets.count; bracket++) {
             preparePairing(bracket);
@@ -951,6 +952,7 @@ public final class Debatetab {
         }
 
         void form() {
+            ranking.sort();
             int total = gatherMembers();
             count = 0;
             for (int at = 1; at < total; at++) {
@@ -966,7 +968,6 @@ public final class Debatetab {
         }
 
         private int gatherMembers() {
-            ranking.sort();
             int total = 0;
             for (int rank = 0; rank < roster.teamCount; rank++) {
                 int team = ranking.order[rank];
