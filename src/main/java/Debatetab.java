@@ -1084,13 +1084,13 @@ public final class Debatetab {
             if (pairs > MOST_ROOMS || low == NONE) {
                 return 0;
             }
-            int smallest = Integer.MAX_VALUE;
+            int smallest = NONE;
             for (int high = low + 1; high < pairing.size; high++) {
                 if (pairing.tried[high] == NONE) {
                     pairing.join(low, high);
                     int cost = pairing.costOf(low, high) + tryAll(pairing, pairs + 1);
                     pairing.part(low, high);
-                    smallest = Math.min(smallest, cost);
+                    smallest = smallest == NONE ? cost : Math.min(smallest, cost);
                 }
             }
             return smallest;

@@ -110,5 +110,12 @@ public final class FaceTest {
             CHECKS.isTrue("import " + imports.group(1), Set.of("java.util.Arrays",
                     "java.util.NoSuchElementException").contains(imports.group(1)));
         }
+        Matcher library = Pattern.compile("\\b(Integer|Long|Math|Arrays|System|Character|Boolean)\\.\\w+")
+                .matcher(text);
+        while (library.find()) {
+            CHECKS.isTrue(library.group() + " is of the library that is allowed",
+                    Set.of("Math.abs", "Math.min", "Integer.bitCount", "Arrays.fill", "System.arraycopy")
+                            .contains(library.group()));
+        }
     }
 }

@@ -1,15 +1,5 @@
-import java.util.NoSuchElementException;
-
 /** For each promise of the document: ordinary calls, the edges that it names, and wrong ones, worked out by hand. */
-public final class PromiseTest {
-    private static final Class<IllegalArgumentException> ARGUMENT = IllegalArgumentException.class;
-    private static final Class<IllegalStateException> STATE = IllegalStateException.class;
-    private static final Class<IndexOutOfBoundsException> INDEX = IndexOutOfBoundsException.class;
-    private static final Class<NoSuchElementException> ELEMENT = NoSuchElementException.class;
-    private static final Class<ArithmeticException> ARITHMETIC = ArithmeticException.class;
-    private static final Class<UnsupportedOperationException> UNSUPPORTED = UnsupportedOperationException.class;
-    private static final int LEAST = Integer.MIN_VALUE;
-    private static final int MOST = Integer.MAX_VALUE;
+public final class PromiseTest extends Scene {
     private static final Checks CHECKS = new Checks();
 
     public static void main(String[] args) {
@@ -31,55 +21,6 @@ public final class PromiseTest {
             promises[i].run();
         }
         CHECKS.end();
-    }
-
-    /** A tournament with teams of these schools. */
-    private static Debatetab withTeams(int... schools) {
-        Debatetab tab = new Debatetab();
-        for (int school : schools) {
-            tab.addTeam(school);
-        }
-        return tab;
-    }
-
-    /** The same with as many judges of school 5, all of rank 5. */
-    private static Debatetab withJudges(int judges, int... schools) {
-        Debatetab tab = withTeams(schools);
-        for (int i = 0; i < judges; i++) {
-            tab.addJudge(5, 5);
-        }
-        return tab;
-    }
-
-    /** Two teams that have met once: team 0, the proposition, has 140 points and team 1 has 141. */
-    private static Debatetab twoAfterOne() {
-        Debatetab tab = withJudges(1, 0, 1);
-        tab.draw();
-        tab.ballot(0, 70, 70, 70, 71);
-        return tab;
-    }
-
-    /** Four teams of four schools after the round {0, 3}, {1, 2}, which 3 and 2 have won: 150 and 160 points. */
-    private static Debatetab fourAfterOne() {
-        Debatetab tab = withJudges(2, 0, 1, 2, 3);
-        tab.draw();
-        tab.ballot(0, 70, 70, 75, 75);
-        tab.ballot(1, 60, 61, 80, 80);
-        return tab;
-    }
-
-    /** Six teams whose best pairing is {0, 3}, {1, 4}, {2, 5}, as 0, 1 and 5 are of the same school. */
-    private static Debatetab sixTeams() {
-        return withTeams(0, 0, 1, 2, 3, 0);
-    }
-
-    private static Debatetab sixDrawn() {
-        Debatetab tab = sixTeams();
-        tab.addJudge(5, 9);
-        tab.addJudge(5, 8);
-        tab.addJudge(5, 7);
-        tab.draw();
-        return tab;
     }
 
     private static void newObject() {
@@ -232,13 +173,8 @@ public final class PromiseTest {
         tab.ballot(2, 73, 73, 70, 71);
         CHECKS.same("brackets()", tab.brackets(), 2);
         CHECKS.same("draw()", tab.draw(), 1);
-        String got = "";
-        for (int room = 0; room < 3; room++) {
-            got += tab.teamIn(1, room, 'p') + "" + tab.teamIn(1, room, 'o') + " ";
-        }
-        CHECKS.same("teams by standing", standings(tab), "210435");
-        CHECKS.same("rooms", got, "42 01 35 ");
-        CHECKS.same("penalties", tab.penaltyOf(1, 0) + tab.penaltyOf(1, 1) + tab.penaltyOf(1, 2), 0);
+        CHECKS.same("teams by standing", standings(tab), "2 1 0 4 3 5 ");
+        CHECKS.same("rooms", roomsOf(tab, 1), "4-2:0 0-1:0 3-5:0 ");
         CHECKS.same("the number of rooms", tab.rooms(1), 3);
     }
 
@@ -468,12 +404,12 @@ public final class PromiseTest {
     private static void standing() {
         Debatetab tab = fourAfterOne();
         tab.addTeam(0);
-        CHECKS.same("standing", standings(tab), "23014");
+        CHECKS.same("standing", standings(tab), "2 3 0 1 4 ");
         CHECKS.fails("rank 5", INDEX, () -> tab.standing(5));
         CHECKS.fails("rank -1", INDEX, () -> tab.standing(-1));
         tab.setPresent(2, false);
-        CHECKS.same("standing with an absent one", standings(tab), "23014");
-        CHECKS.same("equal ones by number", standings(withTeams(3, 2, 1)), "012");
+        CHECKS.same("standing with an absent one", standings(tab), "2 3 0 1 4 ");
+        CHECKS.same("equal ones by number", standings(withTeams(3, 2, 1)), "0 1 2 ");
         standsByStrength();
     }
 
@@ -483,7 +419,7 @@ public final class PromiseTest {
         tab.draw();
         tab.ballot(0, 70, 70, 71, 71);
         tab.ballot(1, 70, 70, 71, 71);
-        CHECKS.same("all equal by strength", standings(tab), "2301");
+        CHECKS.same("all equal by strength", standings(tab), "2 3 0 1 ");
         tab.setPresent(0, false);
         tab.setPresent(1, false);
         tab.setPresent(3, false);
@@ -493,15 +429,7 @@ public final class PromiseTest {
         tab.ballot(0, 80, 80, 60, 60);
         CHECKS.same("strength(1)", tab.strength(1), 2);
         CHECKS.same("strength(0)", tab.strength(0), 1);
-        CHECKS.same("the stronger one stands before the lower number", standings(tab), "23104");
-    }
-
-    private static String standings(Debatetab tab) {
-        StringBuilder order = new StringBuilder();
-        for (int rank = 0; rank < tab.teams(); rank++) {
-            order.append(tab.standing(rank));
-        }
-        return order.toString();
+        CHECKS.same("the stronger one stands before the lower number", standings(tab), "2 3 1 0 4 ");
     }
 
     private static void met() {
@@ -778,7 +706,7 @@ public final class PromiseTest {
 
     private static void bestSpeaker() {
         Debatetab tab = withIron();
-        CHECKS.same("by average, of equal ones the lower", bestSpeakers(tab, 4), "2 3 0 1 ");
+        CHECKS.same("by average, of equal ones the lower", firstSpeakers(tab, 4), "2 3 0 1 ");
         CHECKS.fails("rank 4", INDEX, () -> tab.bestSpeaker(4));
         CHECKS.fails("rank -1", INDEX, () -> tab.bestSpeaker(-1));
         CHECKS.fails("rank 0 of none", INDEX, () -> withTeams(0, 1).bestSpeaker(0));
@@ -786,19 +714,11 @@ public final class PromiseTest {
         more.draw();
         more.setIron(1, 1);
         more.ballot(0, 69, 70, 70, 71);
-        CHECKS.same("of equal averages the one with more speeches", bestSpeakers(more, 4), "1 3 0 2 ");
+        CHECKS.same("of equal averages the one with more speeches", firstSpeakers(more, 4), "1 3 0 2 ");
         more.setIron(0, 0);
         more.draw();
         more.ballot(0, 80, 80, 70, 70);
-        CHECKS.same("those with no speech are left out", bestSpeakers(more, 4), "0 1 3 2 ");
-    }
-
-    private static String bestSpeakers(Debatetab tab, int most) {
-        StringBuilder speakers = new StringBuilder();
-        for (int rank = 0; rank < most; rank++) {
-            speakers.append(tab.bestSpeaker(rank)).append(' ');
-        }
-        return speakers.toString();
+        CHECKS.same("those with no speech are left out", firstSpeakers(more, 4), "0 1 3 2 ");
     }
 
     private static void breaks() {
