@@ -243,7 +243,7 @@ public final class PromiseTest extends Scene {
 
     private static void swapsPenalties() {
         Debatetab tab = sixDrawn();
-        CHECKS.same("penalties before", tab.penaltyOf(0, 0) + 10 * tab.penaltyOf(0, 1) + 100 * tab.penaltyOf(0, 2), 202);
+        CHECKS.same("rooms before", roomsOf(tab, 0), "0-3:2 1-4:0 2-5:2 ");
         CHECKS.same("swap(3, 4)", tab.swap(3, 4), 0);
         CHECKS.same("room 0", tab.teamIn(0, 0, 'p') + 10 * tab.teamIn(0, 0, 'o'), 40);
         CHECKS.same("room 1", tab.teamIn(0, 1, 'p') + 10 * tab.teamIn(0, 1, 'o'), 31);
