@@ -25,7 +25,11 @@ public final class FaceTest {
         CHECKS.begin("hidden members");
         checkHidden();
         CHECKS.begin("text");
-        checkText();
+        String text = Files.readString(PROGRAM).replaceAll("(?s)/\\*.*?\\*/", "").replaceAll("//.*", "");
+        checkText(text);
+        checkMade(text);
+        checkThrows(text);
+        checkLengths(text);
         CHECKS.end();
     }
 
@@ -83,6 +87,7 @@ public final class FaceTest {
             CHECKS.isTrue(field + " is private", Modifier.isPrivate(field.getModifiers()));
             if (Modifier.isStatic(field.getModifiers())) {
                 CHECKS.isTrue(field + " is final", Modifier.isFinal(field.getModifiers()));
+                CHECKS.isTrue(field + " is a number", field.getType() == int.class);
             } else {
                 instanceFields++;
             }
@@ -98,11 +103,10 @@ public final class FaceTest {
         }
     }
 
-    private static void checkText() throws IOException {
-        String text = Files.readString(PROGRAM).replaceAll("(?s)/\\*.*?\\*/", "").replaceAll("//.*", "");
+    private static void checkText(String text) {
         for (String word : new String[] {"catch", "finally", "synchronized", "assert", "instanceof", "->", "::",
             "Exact(", "Float.", "Double.", "Random", "System.out", "System.nanoTime", "System.currentTimeMillis",
-            "System.identityHashCode", ".equals(", ".hashCode(", ".toString("}) {
+            "System.identityHashCode", ".equals(", ".hashCode(", ".toString(", "\" +", "+ \"", "static {", "switch", "volatile"}) {
             CHECKS.isTrue("no " + word, !text.contains(word));
         }
         Matcher imports = Pattern.compile("import ([^;]*);").matcher(text);
@@ -117,5 +121,41 @@ public final class FaceTest {
                     Set.of("Math.abs", "Math.min", "Integer.bitCount", "Arrays.fill", "System.arraycopy")
                             .contains(library.group()));
         }
+    }
+
+    /** All objects and arrays are made with the tournament, so that no later call makes more of them. */
+    private static void checkMade(String text) {
+        Pattern allowed = Pattern.compile("\\s+(throw new \\w+Exception\\(\"[^\"]*\"\\);"
+                + "|private final \\w+\\[\\] \\w+ = new \\w+\\[[A-Z_ *+1]+\\];"
+                + "|\\w+ = new [A-Z]\\w+\\([\\w, ]*\\);|rows\\[i\\] = new Round\\(\\);)");
+        for (String line : text.split("\n")) {
+            if (line.contains("new ")) {
+                CHECKS.isTrue("made in a constructor: " + line, allowed.matcher(line).matches());
+            }
+        }
+    }
+
+    private static void checkThrows(String text) {
+        Matcher thrown = Pattern.compile("throw\\b([^;]*);").matcher(text);
+        int count = 0;
+        while (thrown.find()) {
+            count++;
+            CHECKS.isTrue("throw" + thrown.group(1), thrown.group(1).matches(" new (IllegalState|IllegalArgument"
+                    + "|IndexOutOfBounds|Arithmetic|UnsupportedOperation|NoSuchElement)Exception\\(\"[ -~]*\"\\)"));
+        }
+        CHECKS.isTrue("throws are found", count > 20);
+    }
+
+    /** A method is what stands between a head that opens it and the closing brace below that head. */
+    private static void checkLengths(String text) {
+        Matcher methods = Pattern.compile("^( {4}| {8})(?! )(?!if|for|while)[^\n;={}]*\\([^;={}]*\\{\n(.*?)^\\1\\}$",
+                Pattern.MULTILINE | Pattern.DOTALL).matcher(text);
+        int count = 0;
+        while (methods.find()) {
+            count++;
+            int lines = methods.group().split("\n").length;
+            CHECKS.isTrue(lines + " lines: " + methods.group().split("\n")[0], lines <= 60);
+        }
+        CHECKS.isTrue("methods are found: " + count, count > 100);
     }
 }
